@@ -266,7 +266,10 @@ public final class ElevenOne {
         if (now.jurors == 0) {
             return NOT_NOW;
         }
-        return sharedWithNeeded(MOST) & ~sharedWithNeeded(k);
+        endWithRule(NEEDED, MOST);
+        int sharedByAll = mind.shared;
+        endWithRule(NEEDED, k);
+        return sharedByAll & ~mind.shared;
     }
 
     public int leads(int end) {
@@ -529,11 +532,6 @@ public final class ElevenOne {
         return mind.runThrough();
     }
 
-    private int sharedWithNeeded(int needed) {
-        endWithRule(NEEDED, needed);
-        return mind.shared;
-    }
-
     /** What is told, and the TALK in it. Without a TALK all of its state stands as told. */
     private static final class Room {
         private int things;
@@ -735,7 +733,7 @@ public final class ElevenOne {
             return firstYes > firstNo && ends() == YES || firstNo > firstYes && ends() == NO;
         }
 
-        /** The number of the THING that one alone could tell anew and that SPEAKS most, or -4. */
+        /** Of the THINGS that this one HOLDS and not all do, the one that SPEAKS most, or -4. */
         int loudestNotShared(int seat) {
             int open = at(held, seat) & ~shared;
             int loudest = NONE;
