@@ -570,7 +570,7 @@ public final class ElevenOne {
         }
 
         int addLaw(Law law) {
-            if (laws >= lawsTold.length) {
+            if (laws < 0 || laws >= lawsTold.length) {
                 return NO_ROOM;
             }
             lawsTold[laws] = law;
@@ -579,7 +579,7 @@ public final class ElevenOne {
         }
 
         void sit(Turn turn, int holding) {
-            if (jurors < turns.length) {
+            if (jurors >= 0 && jurors < turns.length) {
                 turns[jurors] = turn;
                 store(told, jurors, holding);
                 jurors++;
@@ -1122,7 +1122,7 @@ public final class ElevenOne {
                         stack[top - 2] = joined(sign, stack[top - 2], stack[top - 1]);
                         top--;
                     }
-                } else if (top < stack.length) {
+                } else if (top >= 0 && top < stack.length) {
                     stack[top] = single(sign, t, p, y, n, m);
                     top++;
                 }

@@ -8,6 +8,7 @@ public final class TalkEdgesTest {
         beginWithoutJurors();
         lineOrMore();
         lineAtItsEnds();
+        leaningAtTheEndsOfInts();
         firstSlipsWithAllAtZero();
         beginAnew();
         beginOfTwelve();
@@ -32,6 +33,7 @@ public final class TalkEdgesTest {
         thingThatThereIsNot();
         thingThatSpeaksMost();
         storyLessThanFive();
+        storyFarAtTheEndsOfInts();
         storyAsMinuteIsNow();
         storyAsSlipsAreNow();
         storyBehindItsThing();
@@ -94,6 +96,38 @@ public final class TalkEdgesTest {
                 Due.due("line " + 99 * side + ", leans " + leans, x.begin(), leans >= 99 * side ? 1 : 0);
                 Due.due("leans " + leans, x.leans(0), leans);
             }
+        }
+    }
+
+    private static final String LEAST = "(0-512)*512*512*16";
+
+    private static void leaningAtTheEndsOfInts() {
+        ElevenOne x = new ElevenOne();
+        Due.law(x, LEAST);
+        Due.law(x, LEAST + "-1");
+        x.juror(1, YES, 0, 0);
+        x.juror(1, NO, 0, 0);
+        x.juror(1, YES, 0, 1);
+        x.juror(1, NO, 0, 1);
+        Due.due("the least is below every line, the most above", x.begin(), 2);
+        Due.due("those of the most say yes", x.slips(false), 12);
+        Due.due("leans the least", x.leans(0), Integer.MIN_VALUE);
+        Due.due("leans the most", x.leans(3), Integer.MAX_VALUE);
+    }
+
+    private static void storyFarAtTheEndsOfInts() {
+        int[] lines = {-99, -5, -1, 0, 1, 5, 99};
+        for (int line : lines) {
+            ElevenOne x = new ElevenOne();
+            Due.law(x, LEAST);
+            Due.law(x, LEAST + "-1");
+            x.juror(4001, YES, 0, -1);
+            x.juror(1, line, 0, 0);
+            x.juror(1, line, 0, 1);
+            x.begin();
+            x.go(1);
+            Due.due("the least is far from the line " + line, x.of(1, 7), 0);
+            Due.due("the most is far from the line " + line, x.of(2, 7), 0);
         }
     }
 
